@@ -698,6 +698,7 @@ public final class OughtKnown {
         }
     }
 
+    /** A LAW is read once, into an object that was made for it ahead. */
     private static final class Law {
         private int order = 'd';
         private int knowing = 'x';
@@ -705,12 +706,7 @@ public final class OughtKnown {
         private boolean gifts;
         private int days = LAST_DAY;
 
-        private void clear() {
-            minding = false;
-            gifts = false;
-            days = LAST_DAY;
-        }
-
+        /** The next letter of a text that is known to be a LAW. */
         private void take(int place, int code) {
             if (place == 0) {
                 order = code;
@@ -823,7 +819,6 @@ public final class OughtKnown {
         }
 
         private void readInto(Law law) {
-            law.clear();
             for (int i = 0; i < size; i++) {
                 law.take(i, codes[i]);
             }

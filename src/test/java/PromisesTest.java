@@ -377,6 +377,12 @@ public final class PromisesTest {
         due("15: ends at itself", y.search(0, 2, 99, 2), 4);
         due("15: found by itself", y.search(0, 2, 99, 0), 1 << 2);
         due("15: number of the first", first, 0);
+        OughtKnown z = land(10);
+        for (int i = 0; i < 16; i++) {
+            entered(z, SALE, i % 10, (i + 1) % 10, i, i);
+        }
+        due("15: sixteen are used", z.search(0, 6, 999, 1), 16);
+        due("15: all are found, the first by the last name", z.search(0, 6, 999, 0), 65535);
     }
 
     private static void promise16() {
