@@ -204,6 +204,12 @@ public final class EdgeSearchesTest {
 
     private static void heldByEntries() {
         Edge.says("with \"a\" all that CAN BE FOUND and were entered until its DAY");
+        OughtKnown y = Edge.land(6, 1);
+        Edge.entered(y, Edge.SALE, 0, 4, 5, 1, 21);
+        int on = y.deed(Edge.SALE, 0, 0, 1, 20), next = y.deed(Edge.SALE, 0, 0, 1, 21);
+        int ay = Edge.law(y, "da");
+        due("the first of all, entered a day behind", y.held(ay, on), 0);
+        due("the first of all, entered on the day", y.held(ay, next), Edge.bits(0));
         OughtKnown x = Edge.land(6, 1);
         int before = Edge.entered(x, Edge.SALE, 0, 4, 5, 1, 19);
         int same = Edge.entered(x, Edge.DEBT, 0, 4, 5, 1, 20);
@@ -235,7 +241,8 @@ public final class EdgeSearchesTest {
         int mark = x.deed(Edge.SALE, 0, 1, 2, 20);
         int behind = Edge.entered(x, Edge.DEBT, 0, 1, 4, 20, 20);
         int takers = x.deed(Edge.SALE, 0, 2, 1, 20);
-        int c = Edge.law(x, "dc"), a = Edge.law(x, "da");
+        int c = Edge.law(x, "dc"), a = Edge.law(x, "da"), none = Edge.law(x, "dx");
+        due("by x nothing", x.held(none, mark), 0);
         due("found on its day, those made ahead", x.held(c, mark), Edge.bits(in, debt));
         due("the search itself finds one made behind, too", x.search(0, 1, 20, 0), Edge.bits(in, debt, behind));
         due("by a also one outside the chain", x.held(a, mark), Edge.bits(in, debt, apart));
@@ -281,6 +288,9 @@ public final class EdgeSearchesTest {
         due("with c, the leaf is lost: who lives there alone", x.held(cl, mark), Edge.bits(sale, dark, debt));
         x.enter(namesake, 5, -1, -1);
         due("with c both: the giver gave it so", x.held(cl, mark), Edge.bits(sale, dark, debt, namesake));
+        x.enter(sale, 5, -1, -1);
+        due("with c one that is found, too", x.held(cl, mark), Edge.bits(sale, dark, debt, namesake));
+        due("with a one that is entered, too", x.held(al, mark), Edge.bits(sale, dark, debt, namesake));
     }
 
     /** The DEEDS 0 and 1 on these days, entered on those (NONE: not): which of them PREVAILS. */
@@ -448,6 +458,18 @@ public final class EdgeSearchesTest {
         x.enter(7, 999, -1, -1);
         due("e: one is entered", x.first(e, 65535), 7);
         due("e: without it", x.first(e, 65535 & ~Edge.bits(7)), 15);
+        OughtKnown y = Edge.land(3, 2);
+        for (int i = 0; i < 16; i++) {
+            y.deed(Edge.SALE, i % 2, 0, 1 + i % 2, 50 - i);
+        }
+        int dy = Edge.law(y, "dx");
+        for (int i = 0; i < 16; i++) {
+            due("one of sixteen alone, " + i, y.first(dy, 1 << i), i);
+        }
+        due("all of the first field", y.first(dy, 0x5555), 14);
+        due("all of the second field", y.first(dy, 0xAAAA), 15);
+        Edge.refused("all", Edge.STATE, y, z -> z.first(dy, 65535));
+        Edge.refused("the last two", Edge.STATE, y, z -> z.first(dy, 0xC000));
     }
 
     private static void ringed() {

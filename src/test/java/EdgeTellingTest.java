@@ -75,6 +75,22 @@ public final class EdgeTellingTest {
         due("the image was not touched", x.digest(), then);
     }
 
+    private static void aNumberThatIsFreeAgain() {
+        Edge.says("4: A DEED, not entered: of a number that a restore set free");
+        OughtKnown x = Edge.land(5, 2);
+        x.image();
+        x.deed(Edge.DARK, 1, 4, 3, 7);
+        x.enter(0, 8, 6, 5);
+        x.leaf(0, true);
+        x.knew(0, 65535);
+        x.restore();
+        due("the number is free", x.deed(Edge.SALE, 0, 0, 1, 9), 0);
+        int[] sale = {Edge.SALE, 0, 0, 1, 9, -1, -1, -1, 0, 0};
+        for (int what = 0; what < 10; what++) {
+            due("about(0, " + what + ")", x.about(0, what), sale[what]);
+        }
+    }
+
     private static void theLatest() {
         Edge.says("27: (one; the latest): a second IMAGE");
         OughtKnown x = Edge.land(3, 1);
@@ -276,6 +292,7 @@ public final class EdgeTellingTest {
         noImage();
         howMany();
         allThatIsTold();
+        aNumberThatIsFreeAgain();
         theLatest();
         whatStays();
         counts();

@@ -130,6 +130,12 @@ public final class EdgeTitlesTest {
         debtsAre("n: the buyer knew of the first", x, n, 0);
         x.deed(Edge.SALE, 0, 1, 2, 1);
         debtsAre("d: a deed from another owner does not beat it", x, d, same);
+        OughtKnown far = Edge.land(12, 0);
+        far.field(11);
+        far.deed(Edge.SALE, 0, 11, 10, 10);
+        far.deed(Edge.DEBT, 0, 11, 5, 11);
+        far.deed(Edge.DEBT, 0, 10, 5, 12);
+        debtsAre("d: the last of the people, his first deed", far, Edge.law(far, "dx"), 2);
         Edge.says("no DEED that was used");
         OughtKnown y = Edge.land(6, 1);
         y.deed(Edge.SALE, 0, 0, 1, 10);
@@ -324,6 +330,15 @@ public final class EdgeTitlesTest {
         Edge.entered(y, Edge.SALE, 0, 2, 4, 21, 24);
         hangsOn("the least of two", y, Edge.law(y, "ex"), 1, -1, -1);
         hangsOn("the second was entered too late to count", y, Edge.law(y, "exh3"), 1, -1, -1);
+        for (int kind = 0; kind < 5; kind++) {
+            OughtKnown any = Edge.land(6, 1);
+            any.deed(Edge.SALE, 0, 0, 1, 10);
+            Edge.entered(any, kind, 0, 0, 2, 11, 11);
+            int ea = Edge.law(any, "ea");
+            hangsOn("an entry of kind " + kind, any, ea, kind == Edge.DEBT ? -1 : 1, -1, -1);
+            any.leaf(1, true);
+            hangsOn("its leaf is lost, but it is entered, kind " + kind, any, ea, kind == Edge.DEBT ? -1 : 1, -1, -1);
+        }
         OughtKnown z = Edge.land(10, 1);
         int link = Edge.written(z, Edge.SALE, 3, 4, 3, 7, 0);
         int hidden = Edge.written(z, Edge.SALE, 0, 1, 1, 7, -1);
@@ -370,6 +385,17 @@ public final class EdgeTitlesTest {
         next.deed(Edge.DEBT, 0, 0, 4, 3);
         next.deed(Edge.DEBT, 0, 0, 4, 12);
         hangsOn("nor does a debt", next, 0, -1, 2, 1);
+        OughtKnown same = Edge.land(6, 1);
+        same.deed(Edge.SALE, 0, 0, 2, 5);
+        same.deed(Edge.SALE, 0, 0, 1, 10);
+        same.deed(Edge.SALE, 0, 0, 2, 11);
+        hangsOn("(2, 0) makes a ring, but the owner is the same; (2, 1) moves it", same, Edge.law(same, "nx"), -1, 2, 1);
+        OughtKnown gift = Edge.land(6, 1);
+        gift.deed(Edge.SALE, 0, 0, 1, 10);
+        gift.deed(Edge.GIFT, 0, 0, 2, 11);
+        gift.deed(Edge.SALE, 0, 0, 3, 12);
+        gift.knew(2, Edge.bits(1));
+        hangsOn("a ring in which it is nothing what a gift's taker knew", gift, Edge.law(gift, "nx"), -1, 2, 1);
         OughtKnown z = Edge.land(6, 2);
         z.deed(Edge.SALE, 1, 0, 1, 10);
         z.deed(Edge.SALE, 1, 0, 2, 11);
@@ -428,6 +454,17 @@ public final class EdgeTitlesTest {
         int same = Edge.written(z, Edge.SALE, 1, 2, 10, -1, 9);
         due("entered ahead of its giver's own", z.wild(0), Edge.bits(early));
         due("and not one of like day", z.wild(0) & Edge.bits(in, same), 0);
+        for (int finder = 0; finder < 12; finder += 11) {
+            OughtKnown alone = new OughtKnown();
+            for (int i = 0; i < 12; i++) {
+                alone.person(i == finder ? 3 : 5);
+            }
+            alone.field(1);
+            Edge.written(alone, Edge.SALE, 1, 2, 10, 3, 4);
+            due("found by " + finder + " alone", alone.wild(0), 0);
+            Edge.written(alone, Edge.SALE, 1, 2, 10, 4, 4);
+            due("found by none", alone.wild(0), Edge.bits(1));
+        }
         Edge.says("24: UNKNOWN: field");
         int[] wrong = {Edge.LEAST, -1, 1, 6, Edge.MOST};
         for (int field : wrong) {
