@@ -1,6 +1,6 @@
 /**
- * "Refusals, of several the first as told by each call .. they change nothing": every call, with every choice of right and
- * wrong arguments, on a new object, on one with something in it, and on a full one.
+ * "Refusals, of several the first as told by each call .. they change nothing": every call, with chosen right and wrong
+ * arguments in all combinations, on a new object, on one with something in it, and on a full one.
  */
 public final class RefusalsTest {
     private static final int NEW = 0, SOME = 1, WHOLE = 2, LANDS = 3;
