@@ -525,7 +525,7 @@ public final class OughtKnown {
         }
 
         private boolean isPaid() {
-            return isOfKind(SALE) || kind == DEBT;
+            return kind == SALE || kind == DARK || kind == DEBT;
         }
 
         private boolean isEntered() {

@@ -21,7 +21,7 @@ public final class LanguageTest {
         "int debts(int,int,int)", "int rings(int,int)", "int moves(int,int)", "int hangs(int,int,int)",
         "int wild(int)", "int lost(int,int)", "int safe(int)", "int image()", "int restore()", "int count(int)",
         "long digest()"};
-    private static final String[] CONSTANTS = {"NONE", "UNKNOWN", "OUTSIDE", "STATE", "FULL"};
+    private static final String[] CONSTANTS = {"NONE = -1", "UNKNOWN = -101", "OUTSIDE = -102", "STATE = -103", "FULL = -104"};
     private static final String[] FORBIDDEN = {
         "\\bthrow\\b", "\\bthrows\\b", "\\btry\\b", "\\bcatch\\b", "\\bfinally\\b", "\\bsynchronized\\b", "\\bassert\\b",
         "->", "::", "\\bprotected\\b", "\\bimport\\b", "\\bpackage\\b", "\\bSystem\\b", "\\bMath\\.\\w*Exact\\b",
@@ -43,7 +43,7 @@ public final class LanguageTest {
         return method.getReturnType().getName() + " " + method.getName() + "(" + String.join(",", types) + ")";
     }
 
-    private static void checkFace() {
+    private static void checkFace() throws IllegalAccessException {
         TreeSet<String> open = new TreeSet<>();
         TreeSet<String> openNames = new TreeSet<>();
         for (Method method : OughtKnown.class.getDeclaredMethods()) {
@@ -60,7 +60,7 @@ public final class LanguageTest {
             if (!Modifier.isPrivate(field.getModifiers())) {
                 check(field.getType() == int.class && Modifier.isStatic(field.getModifiers())
                     && Modifier.isFinal(field.getModifiers()) && Modifier.isPublic(field.getModifiers()), field + " is a constant");
-                constants.add(field.getName());
+                constants.add(field.getName() + " = " + field.getInt(null));
             }
         }
         check(constants.equals(new TreeSet<>(Arrays.asList(CONSTANTS))), "the constants are the document's: " + constants);

@@ -9,9 +9,10 @@ import java.util.TreeMap;
 /** Many runs of calls, each answer held against a slow model that follows the document's sentences one by one. */
 public final class ModelTest {
     private static final int NONE = -1, UNKNOWN = -101, OUTSIDE = -102, STATE = -103, FULL = -104;
-    private static final int RUNS = 1500, CALLS = 500;
+    private static final int RUNS = 1500, CALLS = 500, LONG_RUNS = 150, LAST_CALL = 512;
     private static final Set<String> BEGINNINGS = beginnings();
     private static int wrong = 0;
+    private static int calls = 0;
     private static final TreeMap<String, Integer> reached = new TreeMap<>();
 
     private static Set<String> beginnings() {
@@ -502,6 +503,7 @@ public final class ModelTest {
     }
 
     private static void due(int run, String call, long got, long want) {
+        calls++;
         String name = call.substring(0, call.indexOf('('));
         reach(name + (want <= -101 && want >= -104 ? " refuses " + want : want == NONE ? " NONE" : want == 0 ? " 0" : " more"));
         if (got != want) {
@@ -590,7 +592,75 @@ public final class ModelTest {
         }
     }
 
+    /** An object with its model, used for as many calls as the document allows. */
+    private static final class Pair {
+        final OughtKnown x = new OughtKnown();
+        final Model m = new Model();
+        final Dice r;
+        final int run;
+        int used = 0;
+
+        Pair(int run) {
+            this.run = run;
+            r = new Dice(run);
+        }
+
+        /** A dense land first: few names, all deeds on the first field or two, most of them entered. */
+        void begin() {
+            calls = 0;
+            for (int i = 0; i < 6; i++) { int n = r.below(4); due(run, "person(" + n + ")", x.person(n), m.person(n)); }
+            for (int i = 0; i < 2; i++) { int p = r.below(6); due(run, "field(" + p + ")", x.field(p), m.field(p)); }
+            for (int i = 0; i < 16; i++) {
+                int k = r.below(5), f = r.below(6) == 0 ? 1 : 0, p = r.below(6), t = (p + 1 + r.below(5)) % 6, day = r.below(12);
+                due(run, "deed(" + k + "," + f + "," + p + "," + t + "," + day + ")", x.deed(k, f, p, t, day), m.deed(k, f, p, t, day));
+                int on = day + r.below(6), g = r.below(6) == 0 ? r.below(10) : NONE;
+                if (r.below(5) != 0) { due(run, "enter(" + i + "," + on + "," + g + ",-1)", x.enter(i, on, g, NONE), m.enter(i, on, g, NONE)); }
+                int s = r.below(65536) & r.below(65536);
+                if (r.below(3) == 0) { due(run, "knew(" + i + "," + s + ")", x.knew(i, s), m.knew(i, s)); }
+            }
+            for (int i = 0; i < 4; i++) {
+                long w = r.text();
+                due(run, "letters(" + w + ")", x.letters(w), m.letters(w));
+                due(run, "law()", x.law(), m.law());
+                due(run, "blank()", x.blank(), m.blank());
+            }
+            used = calls;
+        }
+
+        void goOn() {
+            calls = 0;
+            if (r.below(12) == 0) { change(run, x, m, r); } else { ask(run, x, m, r); }
+            used += calls;
+        }
+
+        /** No more than four calls come of one turn, so the last call of all can be chosen. */
+        boolean isNearItsEnd() {
+            return used > LAST_CALL - 6;
+        }
+
+        void end() {
+            for (; used < LAST_CALL - 1; used++) { due(run, "count(5)", x.count(5), m.count(5)); }
+            due(run, "digest() as the last call", x.digest(), m.digest());
+            used++;
+            if (used == LAST_CALL) { reach("a run of " + LAST_CALL + " calls"); }
+        }
+    }
+
+    private static void longRuns(int run) {
+        Pair one = new Pair(2 * run + RUNS), other = new Pair(2 * run + 1 + RUNS);
+        one.begin();
+        other.begin();
+        while (!one.isNearItsEnd() || !other.isNearItsEnd()) {
+            if (!one.isNearItsEnd()) { one.goOn(); }
+            if (!other.isNearItsEnd()) { other.goOn(); }
+        }
+        one.end();
+        other.end();
+        note(one.m);
+    }
+
     public static void main(String[] args) {
+        for (int run = 0; run < LONG_RUNS; run++) { longRuns(run); }
         for (int run = 0; run < RUNS; run++) {
             OughtKnown x = new OughtKnown();
             Model m = new Model();
@@ -631,7 +701,7 @@ public final class ModelTest {
         "debts refuses -101", "debts refuses -102", "debts NONE", "debts more", "rings refuses -101", "rings more",
         "moves refuses -101", "moves more", "hangs refuses -101", "hangs refuses -102", "hangs NONE", "hangs more",
         "wild refuses -101", "wild more", "lost refuses -101", "lost more", "safe refuses -101", "safe 0", "safe more",
-        "restore refuses -103", "restore more", "count refuses -102", "a search of three and more",
+        "restore refuses -103", "restore more", "count refuses -102", "a run of 512 calls", "a search of three and more",
         "two debts that ride, by d", "two debts that ride, by e", "two debts that ride, by n", "two debts that ride, by b",
         "four deeds used, by d", "four deeds used, by e", "four deeds used, by n", "four deeds used, by b"};
 }
